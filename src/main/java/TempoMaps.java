@@ -86,9 +86,6 @@ public final class TempoMaps {
         if (!isWithin(what, 0, 4)) {
             return OUTSIDE;
         }
-        if (i < 0 || i >= marks.size) {
-            return NONE;
-        }
         return marks.tell(i, what);
     }
 
@@ -180,11 +177,12 @@ public final class TempoMaps {
         if (!isWithin(g, 1, MOST_TICKS_A_TAP)) {
             return OUTSIDE;
         }
+        long above = taps.above();
         long below = taps.below() * g;
-        if (taps.size < 2 || below < 1) {
+        // It is 0 where there are fewer than two TAPS.
+        if (below < 1) {
             return STATE;
         }
-        long above = taps.above();
         long lesser = above / below;
         return 2 * (above % below) > below ? lesser + 1 : lesser;
     }
@@ -297,6 +295,7 @@ public final class TempoMaps {
             return place >= 0 && ticks[place] > tick;
         }
 
+        /** What mark() tells of the MARK at a place, or NONE. */
         int tell(int place, int what) {
             if (place < 0 || place >= size) {
                 return NONE;
@@ -362,7 +361,7 @@ public final class TempoMaps {
 
         private void renewUnitsBefore(int firstPlace) {
             for (int i = firstPlace; i < size; i++) {
-                unitsBefore[i] = unitsBehind(i - 1, ticks[i]);
+                unitsBefore[i] = unitsAheadBy(i - 1, ticks[i]);
             }
         }
 
@@ -383,11 +382,11 @@ public final class TempoMaps {
 
         /** How many UNITS all TICKS ahead of a TICK last. */
         long unitsAhead(int tick) {
-            return unitsBehind(placeOf(tick), tick);
+            return unitsAheadBy(placeOf(tick), tick);
         }
 
-        /** The same, where it is known which MARK (-1: none) is the last one ahead of the TICK. */
-        private long unitsBehind(int place, int tick) {
+        /** The same by the MARK at a place (-1: by none), where no other one stands between it and the TICK. */
+        private long unitsAheadBy(int place, int tick) {
             if (place < 0) {
                 return (long) FIRST_PACE * tick;
             }

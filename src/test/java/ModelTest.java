@@ -11,7 +11,7 @@ import java.util.TreeMap;
  * it writes down what every TICK lasts and when it BEGINS, and looks through all of them.
  */
 public final class ModelTest {
-    private static final int RUNS = 300;
+    private static final int RUNS = 120;
     private static final int CALLS = 512;
 
     private static int wrong = 0;

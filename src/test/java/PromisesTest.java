@@ -241,6 +241,17 @@ public final class PromisesTest {
         due("5: the first pace goes on", x.time(31), 30003);
         due("5: the last goes", x.drop(30), 0);
         due("5: nothing is left", x.time(31), 31000);
+        for (int i = 0; i < 6; i++) {
+            x.slope(100 + 10 * i, 2 + i, 20 + i, 30 + i);
+        }
+        due("5: one of six", x.drop(110), 5);
+        int[] want = {100, 120, 130, 140, 150};
+        for (int i = 0; i < want.length; i++) {
+            due("5: its TICK is left: " + i, x.mark(i, 0), want[i]);
+            due("5: its p is left: " + i, x.mark(i, 2), 10 + want[i] / 10);
+            due("5: its q is left: " + i, x.mark(i, 3), 20 + want[i] / 10);
+            due("5: its n is left: " + i, x.mark(i, 4), want[i] / 10 - 8);
+        }
     }
 
     private static void hold() {
@@ -364,6 +375,23 @@ public final class PromisesTest {
         due("10: a MARK put ahead of HOLDS", x.time(20), 10000070L);
         x.step(0, 2);
         due("10: the MARK ahead is another", x.time(20), 90);
+        timeOnSlope(7, 3, 5);
+        timeOnSlope(7, 5, 3);
+        timeOnSlope(1597, 987, 1);
+        timeOnSlope(1999, 1, 1000000);
+        timeOnSlope(2000, 777777, 13);
+    }
+
+    /** Each TICK of a SLOPE, and some behind it, BEGIN when those ahead have passed. */
+    private static void timeOnSlope(int n, int p, int q) {
+        TempoMaps x = new TempoMaps();
+        x.slope(500, n, p, q);
+        long begin = 500000;
+        for (long k = 0; k < n + 5; k++) {
+            String what = "10: slope(500, " + n + ", " + p + ", " + q + "), TICK " + k;
+            due(what, x.time(500 + (int) k), begin);
+            begin += k < n ? (p * n + (q - p) * k) / n : q;
+        }
     }
 
     private static void tick() {
@@ -447,6 +475,12 @@ public final class PromisesTest {
         x.hold(0, 5000000);
         due("14: TICK 0 begins late enough", x.tickOf(5, 1), 0);
         due("14: and no later", x.tickOf(6, 1), 1000);
+        x.hold(0, 0);
+        x.step(0, 1);
+        due("14: to the UNIT, two thirds of a second", x.tickOf(2, 3), 666667);
+        due("14: to the UNIT, a third", x.tickOf(1, 3), 333334);
+        due("14: to the UNIT, a whole one", x.tickOf(3, 3), 1000000);
+        due("14: to the UNIT, a half", x.tickOf(1, 2), 500000);
     }
 
     private static void tap() {
